@@ -224,6 +224,9 @@ public final class AskedTest {
         }
         x.twoSmall(1, 4, 4);
         CHECK.due("around(1, 0, false) of one number", x.around(1, 0, false), 2);
+        x.twoSmall(1, 4, 5);
+        CHECK.due("around(1, 0, false) of two numbers", x.around(1, 0, false), 6);
+        CHECK.due("around(1, 3, false) of two numbers", x.around(1, 3, false), 3);
         for (int bad : new int[] {-1, 4, MIN, MAX}) {
             CHECK.badArgument(x, "around(0, " + bad + ", true)", () -> x.around(0, bad, true));
             CHECK.badArgument(x, "around(5, " + bad + ", true) ahead of the state", () -> x.around(5, bad, true));

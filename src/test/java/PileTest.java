@@ -71,6 +71,9 @@ public final class PileTest {
         x.twoSmall(0, 4, 4);
         CHECK.due("seek(0, false) of 4", x.seek(0, false), 5);
         CHECK.due("seek(0, true) of 4", x.seek(0, true), 5);
+        x.turn();
+        CHECK.due("seek(0, false) of 4, turned", x.seek(0, false), 0);
+        CHECK.due("seek(0, true) of 4, turned", x.seek(0, true), 0);
         x.twoSmall(0, 1, 2);
         CHECK.due("seek(0, false) of 1 to 2", x.seek(0, false), -1);
         CHECK.due("seek(0, true) of 1 to 2", x.seek(0, true), -1);
@@ -193,7 +196,9 @@ public final class PileTest {
         x.lay(0);
         x.fourSmall(0, 1, 1, 4, 4);
         x.lay(0);
-        int[] wants = {6, 5, 4, 5, 5, 2};
+        x.fourSmall(0, 5, 6, 7, 8);
+        x.lay(0);
+        int[] wants = {7, 5, 4, 5, 6, 2};
         for (int what = 0; what < 6; what++) {
             CHECK.due("pile(1, " + what + ")", x.pile(1, what), wants[what]);
         }
