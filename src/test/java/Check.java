@@ -4,6 +4,15 @@ final class Check {
         Object answer();
     }
 
+    /** Makes an object, each time by the same calls. */
+    interface Given {
+        Rangecard made();
+    }
+
+    interface On {
+        Object answer(Rangecard x);
+    }
+
     private static final int[] NO_NUMBERS = {-1, 8, Integer.MIN_VALUE, Integer.MAX_VALUE};
     private static final int[] NO_CARDS = {-1, 6, Integer.MIN_VALUE, Integer.MAX_VALUE};
 
@@ -55,6 +64,29 @@ final class Check {
 
     void badState(Rangecard x, String call, Call it) {
         thrown(x, call, IllegalStateException.class, it);
+    }
+
+    /** The call is answered so, and leaves all that can be seen as it was. */
+    void stays(String call, Given given, On it, Object want) {
+        Rangecard x = given.made();
+        due(call, answer(x, it), want);
+        due(call + " leaves all as it was", Scene.told(x), Scene.told(given.made()));
+    }
+
+    /** The call tells -9 and is counted; all else stays. */
+    void refused(String call, Given given, On it) {
+        Rangecard x = given.made();
+        due(call, answer(x, it), -9);
+        due(call + " changes only what is counted", Scene.told(x, 1), Scene.told(given.made()));
+    }
+
+    /** An exception counts as the answer, by its class. */
+    private static Object answer(Rangecard x, On it) {
+        try {
+            return it.answer(x);
+        } catch (RuntimeException e) {
+            return e.getClass();
+        }
     }
 
     /** To be called last. */
