@@ -1,10 +1,10 @@
-/** Promises 10 to 22 where a CARD gets or loses its RANGE: with one before and without, its own, the first and the last. */
+/** Promises 10 to 22 where a CARD gets or loses its RANGE: with one before and without, its own, first and last. */
 public final class CardEdgesTest {
     private static final Check CHECK = new Check("CardEdgesTest");
     private static final int MIN = Integer.MIN_VALUE;
     private static final int MAX = Integer.MAX_VALUE;
 
-    /** What a NUMBER, or one of its neighbours, is a SMALL number or not. */
+    /** Two that are just SMALL numbers, and two that are just not. */
     private static final long[] SMALL_TURNS = {Wide.SMALL_LEAST - 1, Wide.SMALL_LEAST, Wide.SMALL_GREATEST,
         Wide.SMALL_GREATEST + 1};
 

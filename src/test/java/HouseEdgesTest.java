@@ -1,6 +1,6 @@
 import java.math.BigInteger;
 
-/** Promise 1, and 47 to 50: nothing at all, all there can be, and what is counted where something is refused or thrown. */
+/** Promise 1, and 47 to 50: nothing at all, all there can be, and what is counted where a call is refused or throws. */
 public final class HouseEdgesTest {
     private static final Check CHECK = new Check("HouseEdgesTest");
     private static final int MIN = Integer.MIN_VALUE;
@@ -201,7 +201,8 @@ public final class HouseEdgesTest {
     private static void knockChangesNothingElse() {
         Rangecard x = Scene.FULL.make();
         CHECK.due("knock()", x.knock(), 3);
-        CHECK.due("all else", Scene.told(x), Scene.told(Scene.FULL.make()).replace("house 6 12 1 2 6", "house 6 12 1 3 6"));
+        String before = Scene.told(Scene.FULL.make());
+        CHECK.due("all else", Scene.told(x), before.replace("house 6 12 1 2 6", "house 6 12 1 3 6"));
     }
 
     private static void soundWithoutCards() {
